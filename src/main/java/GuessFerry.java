@@ -761,6 +761,7 @@ public final class GuessFerry {
 
         private final Tokens tokens;
         private final Sound draft = new Sound();
+        private final long[] names = new long[MOST_PARTIES];
         private int at;
         private int fault;
         private int faultPlace = NONE;
@@ -878,15 +879,24 @@ public final class GuessFerry {
             }
             take(Tokens.PARTY);
             long name = tokens.values[at];
-            if (isAt(Tokens.NAME) && draft.hasName(name)) {
+            if (isAt(Tokens.NAME) && isTold(name)) {
                 failLater(TWICE, tokens.starts[at]);
             }
             take(Tokens.NAME);
-            draft.names[draft.parties] = name;
+            names[draft.parties] = name;
             draft.heavy[draft.parties] = takeInt(9);
             draft.nerve[draft.parties] = takeInt(9);
             take(';');
             draft.parties++;
+        }
+
+        private boolean isTold(long name) {
+            for (int party = 0; party < draft.parties; party++) {
+                if (names[party] == name) {
+                    return true;
+                }
+            }
+            return false;
         }
 
         private void readLaw(int law) {
@@ -1090,7 +1100,6 @@ public final class GuessFerry {
         private final int[] odds = new int[MOST_WAVES * THINGS];
         private final int[] oddsSums = new int[MOST_WAVES];
         private final int[] likely = new int[MOST_WAVES];
-        private final long[] names = new long[MOST_PARTIES];
         private final int[] heavy = new int[MOST_PARTIES];
         private final int[] nerve = new int[MOST_PARTIES];
         private final Laws laws = new Laws();
@@ -1128,7 +1137,6 @@ public final class GuessFerry {
             System.arraycopy(other.odds, 0, odds, 0, MOST_WAVES * THINGS);
             System.arraycopy(other.oddsSums, 0, oddsSums, 0, MOST_WAVES);
             System.arraycopy(other.likely, 0, likely, 0, MOST_WAVES);
-            System.arraycopy(other.names, 0, names, 0, MOST_PARTIES);
             System.arraycopy(other.heavy, 0, heavy, 0, MOST_PARTIES);
             System.arraycopy(other.nerve, 0, nerve, 0, MOST_PARTIES);
             laws.copyFrom(other.laws);
@@ -1148,15 +1156,6 @@ public final class GuessFerry {
 
         private boolean hasGuess(int guess) {
             return guess >= 0 && guess < guesses;
-        }
-
-        private boolean hasName(long name) {
-            for (int party = 0; party < parties; party++) {
-                if (names[party] == name) {
-                    return true;
-                }
-            }
-            return false;
         }
 
         private int oddsAt(int wave, int thing) {

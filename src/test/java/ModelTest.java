@@ -182,8 +182,8 @@ public final class ModelTest {
             all = text + " wave 1 0 0 0 0 0;".repeat(random.nextInt(7));
         } else if (sort == 1) {
             StringBuilder more = new StringBuilder(text);
-            for (int i = random.nextInt(8); i > 0; i--) {
-                more.append("party ").append((char) ('a' + random.nextInt(20)));
+            for (int i = random.nextInt(random.nextBoolean() ? 8 : 4); i > 0; i--) {
+                more.append("party ").append((char) ('a' + random.nextInt(6)));
                 more.append(random.nextInt(8) == 0 ? " 1 12;" : " 1 2;");
             }
             all = more.toString();
