@@ -405,6 +405,9 @@ public final class CallEdgesTest {
         Edge.due("alike ones", y.spread(1), 0);
         y.buoy(0, 2, true);
         Edge.due("but for a buoy's", y.spread(0), 4);
+        GuessFerry five = Edge.told("wave 9 5 5 5 5 5;".repeat(4) + "wave 5 5 5 5 5 7;");
+        Edge.due("by the first thing", five.spread(0), 4);
+        Edge.due("by the last thing of the last wave", five.spread(4), 2);
         Edge.says("IN n YEARS of a WAVE: what 0 THINGS that MAY be (bits), 1 how often it shifted, 2 what is THERE; NONE:"
             + " no such ones.");
         Edge.only(0, 1, "then(wave, 0, 0)", wave -> x.then(wave, 0, 0));
@@ -626,5 +629,38 @@ public final class CallEdgesTest {
         Edge.due("count(15) of no waves", new GuessFerry().count(15), 0);
         Edge.due("count(14) of five", Edge.told("wave 0 0 0 0 0 1;".repeat(5)).count(14), 7776);
         Edge.due("count(15) of five", Edge.told("wave 0 0 0 0 0 1;".repeat(5)).count(15), 7775);
+        countsOfMost();
+    }
+
+    /** As many waves and parties as can be: each of them counts. */
+    private static void countsOfMost() {
+        GuessFerry x = Edge.told("wave 0 0 0 0 0 1;".repeat(5) + "party a 0 0;party b 0 0;party c 0 0;party d 0 0;"
+            + "party e 0 0;party f 0 0;shifts=100;fares=1+which;");
+        Edge.says("18 FARES of all PARTIES HERE, added");
+        Edge.due("count(18) of six", x.count(18), 21);
+        Edge.says("7 how often any went so far");
+        for (int party = 0; party < 6; party++) {
+            x.go(party, party == 5 ? 0 : 7775);
+        }
+        x.go(5, 0);
+        Edge.due("count(7)", x.count(7), 7);
+        Edge.says("3 what was paid so far");
+        Edge.due("count(3)", x.count(3), 21 + 6);
+        Edge.due("count(4)", x.count(4), 32);
+        Edge.due("count(6)", x.count(6), 31);
+        Edge.says("12 BUOYS that lie, 13 WAVES FOUND (bits)");
+        Edge.due("count(13)", x.count(13), 31);
+        x.buoy(4, 5, true);
+        Edge.due("count(12)", x.count(12), 2);
+        Edge.says("16 how often any WAVE shifted so far");
+        x.years(2);
+        Edge.due("count(16)", x.count(16), 10);
+        Edge.due("count(12) behind shifts", x.count(12), 0);
+        Edge.due("count(13) behind shifts", x.count(13), 0);
+        Edge.says("17 WAVES over which nothing MAY be (bits)");
+        for (int wave = 0; wave < 5; wave++) {
+            x.buoy(wave, 5, true);
+            Edge.due("count(17) of " + wave, x.count(17), (2 << wave) - 1);
+        }
     }
 }

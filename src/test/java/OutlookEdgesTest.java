@@ -189,6 +189,7 @@ public final class OutlookEdgesTest {
     private static void wisest() {
         Edge.says("WISEST: the GUESS (any) of least LEFT, of alike ones the least number.");
         Edge.due("one case: any", Edge.told("wave 0 4 0 0 0 0; wave 0 0 0 0 0 1;").wisest(0), 0);
+        Edge.due("one case of five waves: any", Edge.told("wave 0 0 0 0 0 1;".repeat(5)).wisest(0), 0);
         GuessFerry x = Edge.told("wave 0 0 4 0 0 0; wave 0 1 1 0 0 0; wave 0 0 0 1 1 1;");
         Edge.due("no case itself", x.wisest(0), Edge.guess(2, 1, 0));
         Edge.due("how many", x.wisest(1), 3);
@@ -217,6 +218,10 @@ public final class OutlookEdgesTest {
         Edge.due("ranked(0)", y.ranked(0), 7775);
         Edge.due("ranked(1)", y.ranked(1), 7775 - 1296);
         Edge.due("ranked(5)", y.ranked(5), 7774);
+        GuessFerry z = Edge.told("wave 3 0 5 0 5 1; wave 2 7 0 1 0 4; wave 9 0 0 8 0 0; wave 0 1 0 0 2 0;");
+        for (int i = 0; i < 20; i++) {
+            Edge.due("rank of ranked(" + i + ")", z.rank(z.ranked(i)), i);
+        }
     }
 
     private static void shares() {
@@ -252,6 +257,28 @@ public final class OutlookEdgesTest {
         Edge.due("the first is found", found.sure(0, 1), 20);
         Edge.due("the first is found", found.sure(0, 2), 40);
         Edge.due("the first is found", found.sure(0, 3), 52);
+        sureOfMany();
+    }
+
+    private static void sureOfMany() {
+        // Of each go but the last, one wave lets down, never one ahead of the last one that did.
+        GuessFerry x = Edge.told("wave 9 9 9 9 9 9;".repeat(5) + "party p 9 9;");
+        Edge.due("sure(0, 2) of five", x.sure(0, 2), 59049 * (1 + 5));
+        Edge.due("sure(0, 3) of five", x.sure(0, 3), 59049 * (1 + 5 + 15));
+        Edge.due("sure(0, 4) of five", x.sure(0, 4), 59049 * (1 + 5 + 15 + 35));
+        GuessFerry y = Edge.told("wave 2 2 0 0 0 0; wave 3 3 3 0 0 0; wave 1 1 1 1 0 0; party p 0 0;");
+        y.go(0, Edge.guess(y.wave(0, 4), 5, 5));
+        Edge.due("sure(0, 2), the first found", y.sure(0, 2), 6 * 3);
+        Edge.due("sure(0, 4), the first found", y.sure(0, 4), 6 * 9);
+        Edge.due("sure(0, 6), the first found", y.sure(0, 6), 6 * 12);
+        // By 0 and 1, by 1 and 1 if let down at the first wave, by 0 and 0 if at the second.
+        GuessFerry z = Edge.told("wave 5 1 0 0 0 0; wave 2 3 0 0 0 0; party p 0 0;");
+        Edge.due("sure(0, 2) of unlike odds", z.sure(0, 2), 15 + 3 + 10);
+        Edge.due("sure(0, 3) of unlike odds", z.sure(0, 3), 30);
+        // Within three goes, whichever waves they let down at, and none behind these.
+        String two = "wave 6 6 6 0 0 0; wave 6 6 6 0 0 0; party p 0 0; needs=";
+        Edge.due("needs by goes", Edge.told(two + "goes*3;").sure(0, 8), 36 * 6);
+        Edge.due("needs by buoys", Edge.told(two + "buoys*9;").sure(0, 8), 36);
     }
 
     private static void alike() {
@@ -457,6 +484,10 @@ public final class OutlookEdgesTest {
         Edge.due("so in all", x.lie(4, 2), 4);
         Edge.due("of what is known alone", x.lie(1, 0), 0);
         Edge.due("the last of 20", lastLie(), 1 << 19);
+        GuessFerry five = Edge.told("wave 9 9 9 9 9 9;".repeat(5));
+        five.tell(4, 63, false);
+        five.tell(4, 63, true);
+        Edge.due("of the fifth wave", five.lie(2, 1), 1);
     }
 
     private static int lastLie() {
@@ -475,6 +506,8 @@ public final class OutlookEdgesTest {
         Edge.due("the widest", Edge.told("wave 1 1 0 0 0 0; wave 1 1 1 0 0 0; wave 0 1 1 1 0 0;").ask(0, 0), 1);
         Edge.due("the last", Edge.told("wave 1 0 0 0 0 0;".repeat(4) + "wave 1 1 0 0 0 0;").ask(0, 0), 4);
         Edge.due("one case", Edge.told("wave 1 0 0 0 0 0;".repeat(5)).ask(0, 3), 0);
+        Edge.due("fewest, not by odds", Edge.told("wave 1 1 1 0 0 0; wave 9 9 0 0 0 0;").ask(0, 0), 0);
+        Edge.due("all of five", Edge.told("wave 9 9 9 9 9 9;".repeat(5)).ask(0, 0), 0);
         // By what is told the first wave is sure but for a lie.
         GuessFerry x = Edge.told("wave 1 1 1 0 0 0; wave 1 1 0 0 0 0;");
         x.tell(0, 1, true);

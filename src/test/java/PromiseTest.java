@@ -26,21 +26,9 @@ public final class PromiseTest {
         due(promise, call, got ? 1 : 0, want ? 1 : 0);
     }
 
-    private static void feed(GuessFerry x, String text) {
-        String padded = text + " ".repeat((20 - text.length() % 20) % 20);
-        for (int i = 0; i < padded.length(); i += 20) {
-            int[] w = new int[5];
-            for (int j = 0; j < 20; j++) {
-                w[j / 4] = w[j / 4] << 8 | padded.charAt(i + j);
-            }
-            x.feed(w[0], w[1], w[2], w[3], w[4]);
-        }
-        x.back(padded.length() - text.length());
-    }
-
     private static GuessFerry told(String text) {
         GuessFerry x = new GuessFerry();
-        feed(x, text);
+        Edge.feed(x, text);
         due(4, "read() of " + text, x.read(), 0);
         return x;
     }
@@ -50,7 +38,7 @@ public final class PromiseTest {
         x.years(1);
         x.hold(1);
         x.tell(0, 1, true);
-        feed(x, text);
+        Edge.feed(x, text);
         due(4, "read() of " + text, x.read(), fault);
         due(5, "place() of " + text, x.place(), place);
         due(4, "count(8) behind read", x.count(8), 0);
@@ -504,7 +492,7 @@ public final class PromiseTest {
         due(14, "undo 41", x.undo(), false);
         due(14, "count(2)", x.count(2), 5);
         x.years(1);
-        feed(x, "seed 1;");
+        Edge.feed(x, "seed 1;");
         x.read();
         due(14, "undo() behind read()", x.undo(), false);
         due(4, "count(2) behind read()", x.count(2), 0);
@@ -858,7 +846,7 @@ public final class PromiseTest {
         due(41, "count(10)", y.count(10), 20);
         due(44, "lie(20, 3)", y.lie(20, 3), (1 << 20) - 1);
         due(9, "undo() is not of tell", y.undo(), false);
-        feed(y, "seed 1;");
+        Edge.feed(y, "seed 1;");
         y.read();
         due(4, "count(10) behind read()", y.count(10), 0);
     }
@@ -875,7 +863,7 @@ public final class PromiseTest {
         x.years(5);
         x.buoy(1, 1, true);
         x.tell(0, 1, true);
-        feed(x, "seed");
+        Edge.feed(x, "seed");
         due(46, "hold(0)", x.hold(0), true);
         due(46, "count(11)", x.count(11), 2);
         due(47, "restore(1)", x.restore(1), false);

@@ -347,6 +347,10 @@ public final class TextEdgesTest {
         fine("needs=(1)+(2)+(3)+(4)+(5)+(6)+(7)+((((((8))))));");
         read("needs=1+(1*(1-(1/(1+(1*(1-(1)))))));", 2, 26);
         fine("needs=if ((((((1))))))<((((((2)))))) then ((((((3)))))) else ((((((4))))));");
+        Edge.due("all that waits ahead of six", Edge.told("party p 0 0;fares=9-1*(9-1*(9-1*(9-1*(9-1*(9-1*(9-1*4))))));")
+            .party(0, 4), 5);
+        Edge.due("all that waits ahead of six", Edge.told("party p 0 0;fares=1+1*(1+1*(1+1*(1+1*(1+1*(1+1*(1+1*2))))));")
+            .party(0, 4), 9);
         read("needs=if 1<(((((((2))))))) then 3 else 4;", 2, 17);
     }
 
@@ -360,10 +364,32 @@ public final class TextEdgesTest {
         read("party p 1 10;party p 1 1;", 5, 10);
         read("party aaaaaaaa 1 1;party aaaaaaab 1 1;party aaaaaaaa 1 1;", 3, 44);
         fine("party ab 1 1;party ba 1 1;party a 1 1;party b 1 1;party aa 1 1;party bb 1 1;");
+        fine("party p 1 1;party ap 1 1;party apa 1 1;party zzzzzzzz 1 1;party zzzzzzz 1 1;party azzzzzzz 1 1;");
+        unlikeNames();
         // A name of a text read earlier is told anew.
         GuessFerry x = Edge.told("party p 1 1;");
         Edge.feed(x, "party p 1 1;");
         Edge.due("read() of the same again", x.read(), 0);
+        wrongNumbers();
+    }
+
+    /** Names that differ in one letter, wherever it is, are not the same. */
+    private static void unlikeNames() {
+        for (int at = 0; at < 8; at++) {
+            for (char letter = 'a'; letter <= 'z'; letter++) {
+                StringBuilder name = new StringBuilder("mmmmmmmm");
+                name.setCharAt(at, letter);
+                String text = "party mmmmmmmm 1 1;party " + name + " 1 1;";
+                if (letter == 'm') {
+                    read(text, 3, 25);
+                } else {
+                    fine(text);
+                }
+            }
+        }
+    }
+
+    private static void wrongNumbers() {
         Edge.says("5 WRONG (at the INT): a number not as told above");
         read("party p 1 1;wave 0 1 10 10 1 1;", 5, 21);
         read("wave 10 0 0 0 0 0;?", 1, 18);
@@ -386,7 +412,9 @@ public final class TextEdgesTest {
         x.buoy(0, 1, true);
         x.tell(0, 3, true);
         x.tell(1, 1, false);
-        x.hold(1);
+        for (int slot = 0; slot < 3; slot++) {
+            x.hold(slot);
+        }
         x.go(2, 35);
         return x;
     }
@@ -409,9 +437,11 @@ public final class TextEdgesTest {
             Edge.due("undo() behind it", Edge.state(x), Edge.state(same));
             Edge.due("years(9)", x.years(9), same.years(9));
             Edge.due("years(9) behind it", Edge.state(x), Edge.state(same));
-            Edge.due("restore(1)", x.restore(1), true);
+            for (int slot = 0; slot < 3; slot++) {
+                Edge.due("restore(" + slot + ")", x.restore(slot), true);
+            }
             same.restore(1);
-            Edge.due("restore(1) behind it", Edge.state(x), Edge.state(same));
+            Edge.due("restore() behind it", Edge.state(x), Edge.state(same));
         }
     }
 
@@ -435,5 +465,19 @@ public final class TextEdgesTest {
         }
         Edge.due("read() of nothing", x.read(), 0);
         Edge.due("read() of nothing", Edge.state(x), Edge.state(new GuessFerry()));
+        Edge.feed(x, "wave 0 0 0 0 0 1; wave 1 0 0 0 0 0; party p 1 1;");
+        x.read();
+        Edge.due("what may be by this text alone", x.wave(0, 0), 32);
+        Edge.due("what may be by this text alone", x.wave(1, 0), 1);
+        longTexts(x);
+    }
+
+    /** However many texts there were, the last one's laws have room. */
+    private static void longTexts(GuessFerry x) {
+        for (int i = 1; i <= 9; i++) {
+            Edge.feed(x, "party p 1 1;fares=" + i + "+1-1".repeat(90) + ";");
+            Edge.due("read() of a long law", x.read(), 0);
+            Edge.due("a long law, text " + i, x.party(0, 4), i);
+        }
     }
 }
