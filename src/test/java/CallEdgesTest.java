@@ -34,6 +34,7 @@ public final class CallEdgesTest {
         hold();
         restore();
         count();
+        mostCalls();
         Edge.end("CallEdgesTest");
     }
 
@@ -629,6 +630,15 @@ public final class CallEdgesTest {
         Edge.due("count(15) of no waves", new GuessFerry().count(15), 0);
         Edge.due("count(14) of five", Edge.told("wave 0 0 0 0 0 1;".repeat(5)).count(14), 7776);
         Edge.due("count(15) of five", Edge.told("wave 0 0 0 0 0 1;".repeat(5)).count(15), 7775);
+        Edge.says("8 bytes on the tape, 9 things that can be undone, 10 TOLD ones, 11 SLOTS that hold something");
+        x.feed(0, 0, 0, 0, 0);
+        x.back(3);
+        x.tell(0, 1, true);
+        x.hold(2);
+        Edge.due("count(8)", x.count(8), 17);
+        Edge.due("count(9)", x.count(9), 2);
+        Edge.due("count(10)", x.count(10), 1);
+        Edge.due("count(11)", x.count(11), 1);
         countsOfMost();
     }
 
@@ -662,5 +672,21 @@ public final class CallEdgesTest {
             x.buoy(wave, 5, true);
             Edge.due("count(17) of " + wave, x.count(17), (2 << wave) - 1);
         }
+    }
+
+    private static void mostCalls() {
+        Edge.says("An object is used for at most 512 calls after it has been made");
+        GuessFerry x = new GuessFerry();
+        for (int call = 1; call < 512; call++) {
+            Edge.due("years(40), call " + call, x.years(40), 40 * call);
+        }
+        Edge.due("the 512th call", x.count(2), 40 * 511);
+        GuessFerry y = Edge.told("wave 1 0 0 0 0 0; party p 0 0; fares=99;");
+        for (int i = 1; i <= 500; i++) {
+            y.go(0, 1);
+        }
+        Edge.due("paid by 500 goes", y.count(3), 99 * 500);
+        Edge.due("500 goes", y.party(0, 3), 500);
+        Edge.due("things that can be undone", y.count(9), 40);
     }
 }

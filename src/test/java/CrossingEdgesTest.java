@@ -270,14 +270,30 @@ public final class CrossingEdgesTest {
     }
 
     private static void lots() {
-        Edge.says("the rest of h, moved 1 bit down likewise, by n (32 bits that wrap)");
-        // Seeds by which h is below 0 ahead of the moves, so that zeros must come in.
-        String wave = "wave 9 9 9 9 9 9;";
-        for (int seed = 9000; seed <= 9999; seed += 37) {
-            GuessFerry x = Edge.told(wave + "seed " + seed + ";");
-            Edge.due("wave(0, 4) by seed " + seed, x.wave(0, 4), Edge.lot(54, seed, 0) / 9);
-        }
+        Edge.says("LOT n of a SEED and a which: h is the SEED; for each of 173, which: h becomes (h and it, each bit of"
+            + " which is in just one) times 1103515245 and 12345 more, then h and h moved 15 bits down (zeros come in),"
+            + " likewise; the rest of h, moved 1 bit down likewise, by n (32 bits that wrap).");
+        // LOT 54 for waves 0 to 4, shifted 0 times and 16,000 times, as worked out apart from this program.
+        lotsOf(0, new int[] {12, 33, 50, 5, 5}, new int[] {6, 15, 53, 6, 8});
+        lotsOf(1, new int[] {23, 2, 11, 26, 6}, new int[] {39, 18, 29, 48, 12});
+        lotsOf(2, new int[] {32, 30, 52, 15, 7}, new int[] {13, 32, 38, 40, 39});
+        lotsOf(4711, new int[] {33, 8, 50, 30, 42}, new int[] {18, 9, 51, 45, 11});
+        lotsOf(9999, new int[] {42, 24, 0, 35, 19}, new int[] {34, 10, 42, 19, 23});
         Edge.due("a sum of 1", Edge.told("wave 0 0 0 1 0 0;").wave(0, 4), 3);
+    }
+
+    private static void lotsOf(int seed, int[] first, int[] last) {
+        Edge.due("seed " + seed, Edge.lot(54, seed, 4), first[4]);
+        GuessFerry x = Edge.told("wave 9 9 9 9 9 9;".repeat(5) + "shifts=100;seed " + seed + ";");
+        for (int wave = 0; wave < 5; wave++) {
+            Edge.due("wave(" + wave + ", 4) by seed " + seed, x.wave(wave, 4), first[wave] / 9);
+        }
+        for (int i = 1; i < 400; i++) {
+            x.years(40);
+        }
+        for (int wave = 0; wave < 5; wave++) {
+            Edge.due("then(" + wave + ", 40, 2) by seed " + seed, x.then(wave, 40, 2), last[wave] / 9);
+        }
     }
 
     private static void sinking() {

@@ -13,6 +13,11 @@ public final class PromiseTest {
     private static final String THREE = "wave 0 7 0 0 0 0; wave 0 0 4 0 6 0; wave 0 0 0 0 0 2; party p 2 1;"
         + " party q 5 1; party r 0 0;";
 
+    /** As many waves and parties as can be, with laws of all that they may look at. */
+    private static final String MOST = "wave 1 2 3 4 5 6;".repeat(5) + "party a 0 1;party b 1 2;party c 2 3;"
+        + "party d 3 4;party e 4 5;party f 9 9;needs=heavy+goes-left/buoys;fares=which*nerve/year;dares=1/goes;"
+        + "shifts=left*at*9/buoys;seed 9999;";
+
     private static int wrong = 0;
 
     private static void due(int promise, String call, int got, int want) {
@@ -988,8 +993,9 @@ public final class PromiseTest {
     private static void wildCalls() {
         int[] wild = {MIN, MIN + 1, -7777, -64, -2, -1, 0, 1, 2, 5, 6, 31, 40, 41, 63, 64, 7775, 7776, 46656, MAX};
         Random random = new Random(5);
-        for (int run = 0; run < 200; run++) {
-            GuessFerry x = run % 2 == 0 ? new GuessFerry() : told(run % 4 == 1 ? TWO : THREE);
+        String[] texts = {"", TWO, THREE, MOST};
+        for (int run = 0; run < 400; run++) {
+            GuessFerry x = told(texts[run % texts.length]);
             for (int i = 0; i < 500; i++) {
                 wildCall(x, random.nextInt(48), wild[random.nextInt(wild.length)], wild[random.nextInt(wild.length)],
                     wild[random.nextInt(wild.length)]);

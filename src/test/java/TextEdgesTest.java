@@ -152,6 +152,13 @@ public final class TextEdgesTest {
         fine(WAVE);
         read(";", 1, 0);
         read(WAVE + ";", 1, 17);
+        Edge.says("TELL: 'wave' INT INT INT INT INT INT ';' | 'party' NAME INT INT ';' | ('needs' | 'fares' | 'dares' |"
+            + " 'shifts') LAW ';' | 'seed' INT ';'.");
+        for (String tell : new String[] {"wave 1 2 3 4 5 6 ;", "party p 1 2 ;", "needs = 1 ;", "fares = 1 ;",
+            "dares = 1 ;", "shifts = 1 ;", "seed 1 ;", "needs = if 1 < 2 then 3 else ( 4 ) ;"}) {
+            fine(tell);
+            cutOff(tell);
+        }
         Edge.says("LAW: '=' {'if' E '<' E 'then' E 'else'} E.");
         fine("needs = 1;");
         fine("needs = if 1 < 2 then 3 else 4;");
@@ -182,6 +189,16 @@ public final class TextEdgesTest {
             }
         }
         read("fares = name;", 1, 8);
+    }
+
+    /** A tell that ends behind one of its tokens, or goes on there with what is none. */
+    private static void cutOff(String tell) {
+        for (int end = tell.indexOf(' '); end > 0; end = tell.indexOf(' ', end + 1)) {
+            String cut = tell.substring(0, end);
+            read(cut, 1, end);
+            read(cut + " ?", 1, end + 1);
+            read(cut + " seed", 1, end + 1);
+        }
     }
 
     private static void wavesAndParties() {
