@@ -265,6 +265,11 @@ public final class TextEdgesTest {
         laws(x, 7, 1, 1, 0);
         // A law of many ifs is gone wholly behind a shorter one.
         laws(Edge.told(text + "needs=" + IF.repeat(4) + "1;needs=2;"), 2, 1, 1, 0);
+        for (int ifs : new int[] {4, 3, 2, 1, 0, 1, 2, 3, 4, 0}) {
+            Edge.feed(x, text + "needs=" + "if 9<8 then 7 else ".repeat(ifs) + ifs + ";");
+            Edge.due("read()", x.read(), 0);
+            laws(x, ifs, 1, 1, 0);
+        }
     }
 
     private static void laws(GuessFerry x, int needs, int fares, int dares, int shifts) {
