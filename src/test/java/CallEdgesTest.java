@@ -47,7 +47,7 @@ public final class CallEdgesTest {
     }
 
     private static void newObject() {
-        Edge.says("`GuessFerry()`: No WAVES, no PARTIES.");
+        Edge.says("No WAVES, no PARTIES.");
         GuessFerry x = new GuessFerry();
         for (int what = 0; what <= 18; what++) {
             Edge.due("count(" + what + ")", x.count(what), what == 14 ? 1 : 0);
@@ -139,6 +139,20 @@ public final class CallEdgesTest {
     }
 
     private static void wave() {
+        Edge.says("Of a WAVE: what 0 THINGS that MAY be there (bits)");
+        for (int thing = 0; thing < 6; thing++) {
+            GuessFerry one = Edge.told("wave 1 1 1 1 1 1; wave " + "0 ".repeat(thing) + "9" + " 0".repeat(5 - thing) + ";");
+            Edge.due("the one thing " + thing, one.wave(1, 0), 1 << thing);
+            one.buoy(0, thing, true);
+            Edge.due("all but thing " + thing, one.wave(0, 0), 63 - (1 << thing));
+        }
+        Edge.says("2 BUOYS (bits)");
+        GuessFerry laid = Edge.told("wave 1 1 1 1 1 1; wave 0 0 9 0 0 0;");
+        for (int thing = 0; thing < 6; thing++) {
+            laid.buoy(1, thing, true);
+            Edge.due("buoys up to " + thing, laid.wave(1, 2), (2 << thing) - 1);
+        }
+        Edge.due("of the other wave", laid.wave(0, 2), 0);
         Edge.says("1 the one FOUND (-2: none)");
         GuessFerry x = Edge.told(TEXT);
         Edge.due("none found", x.wave(1, 1), -2);
@@ -164,6 +178,16 @@ public final class CallEdgesTest {
         Edge.only(0, 5, "odds(0, thing)", thing -> x.odds(0, thing));
         Edge.only(0, 5, "odds(1, thing)", thing -> x.odds(1, thing));
         Edge.only(0, 1, "odds(wave, 0)", wave -> x.odds(wave, 0));
+        Edge.says("Of a PARTY: what 0 HEAVY, 1 NERVE, 2: 0 HERE, 1 LOST, 2 OVER");
+        GuessFerry y = Edge.told("wave 0 8 0 0 0 0; party a 0 9; party b 9 0; party c 8 7;");
+        y.go(1, 1);
+        y.go(2, 1);
+        int[][] due = {{0, 9, 0}, {9, 0, 1}, {8, 7, 2}};
+        for (int party = 0; party < 3; party++) {
+            for (int what = 0; what < 3; what++) {
+                Edge.due("party(" + party + ", " + what + ")", y.party(party, what), due[party][what]);
+            }
+        }
         Edge.says("3 how often it went, 4 FARES, 5: 1 DARES, else 0, now. NONE for others.");
         Edge.only(0, 5, "party(0, what)", what -> x.party(0, what));
         for (int what = 0; what <= 5; what++) {
@@ -397,7 +421,7 @@ public final class CallEdgesTest {
         Edge.says("SHARE; NONE: no such ones.");
         Edge.only(0, 1, "share(wave, 0)", wave -> x.share(wave, 0));
         Edge.only(0, 5, "share(0, thing)", thing -> x.share(0, thing));
-        Edge.says("greatest ODDS less least ODDS (none: 0); NONE: no such WAVE.");
+        Edge.says("Of THINGS that MAY be over a WAVE: greatest ODDS less least ODDS (none: 0); NONE: no such WAVE.");
         Edge.only(0, 1, "spread(wave)", x::spread);
         Edge.due("nothing may be", withNoCases().spread(0), 0);
         Edge.due("one thing", x.spread(1), 0);
@@ -612,6 +636,20 @@ public final class CallEdgesTest {
     }
 
     private static void count() {
+        Edge.says("0 WAVES, 1 PARTIES, 2 the year");
+        for (int waves = 0; waves <= 5; waves++) {
+            for (int parties = 0; parties <= 6; parties++) {
+                StringBuilder text = new StringBuilder("wave 1 0 0 0 0 0;".repeat(waves));
+                for (int party = 0; party < parties; party++) {
+                    text.append("party ").append((char) ('a' + party)).append(" 0 0;");
+                }
+                GuessFerry y = Edge.told(text.toString());
+                y.years(waves + parties);
+                Edge.due("count(0) of " + waves, y.count(0), waves);
+                Edge.due("count(1) of " + parties, y.count(1), parties);
+                Edge.due("count(2)", y.count(2), waves + parties);
+            }
+        }
         Edge.says("17 WAVES over which nothing MAY be (bits), 18 FARES of all PARTIES HERE, added. NONE for others.");
         GuessFerry x = Edge.told(TEXT);
         Edge.only(0, 18, "count(what)", x::count);

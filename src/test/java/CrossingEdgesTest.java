@@ -3,6 +3,7 @@ public final class CrossingEdgesTest {
     private static final String ONE = "wave 4 0 6 0 0 0; party p 2 3;";
 
     public static void main(String[] args) {
+        countedYears();
         whatIsThere();
         guessNumbers();
         whatMayBe();
@@ -14,6 +15,8 @@ public final class CrossingEdgesTest {
         varsOfNeeds();
         heldValues();
         lots();
+        paying();
+        waveByWave();
         sinking();
         lettingDown();
         asItWent();
@@ -24,9 +27,23 @@ public final class CrossingEdgesTest {
         Edge.end("CrossingEdgesTest");
     }
 
+    private static void countedYears() {
+        Edge.says("YEARS are counted on.");
+        GuessFerry x = Edge.told(ONE + "shifts=100;");
+        Edge.due("years(2)", x.years(2), 2);
+        Edge.due("years(40)", x.years(40), 42);
+        Edge.due("years(1)", x.years(1), 43);
+        Edge.due("count(2)", x.count(2), 43);
+        x.go(0, 2);
+        x.fetch(0);
+        x.buoy(0, 0, true);
+        Edge.due("other things take no year", x.count(2), 43);
+        Edge.due("a year in which all shifts is one", x.years(1), 44);
+    }
+
     private static void whatIsThere() {
-        Edge.says("the THING v, the least, for which ODDS of all from 0 to v, added, are more than LOT of the sum"
-            + " of all its ODDS, of the SEED and 8 * how often that WAVE shifted so far and the WAVE.");
+        Edge.says("What is THERE over a WAVE: the THING v, the least, for which ODDS of all from 0 to v, added, are"
+            + " more than LOT of the sum of all its ODDS, of the SEED and 8 * how often that WAVE shifted so far and the WAVE.");
         int[][] odds = {{0, 9, 0, 3, 0, 1}, {1, 1, 1, 1, 1, 1}, {2, 0, 0, 0, 0, 1}, {0, 0, 0, 0, 0, 9}, {9, 9, 9, 9, 9, 9}};
         StringBuilder waves = new StringBuilder();
         for (int[] one : odds) {
@@ -82,7 +99,8 @@ public final class CrossingEdgesTest {
     }
 
     private static void whatMayBe() {
-        Edge.says("those with ODDS above 0, but for such as a BUOY tells are not; or one alone, if it is FOUND.");
+        Edge.says("KNOWN of a WAVE are THINGS that MAY be there: those with ODDS above 0, but for such as a BUOY tells"
+            + " are not; or one alone, if it is FOUND.");
         GuessFerry x = Edge.told("wave 0 1 9 0 0 1; party p 0 0;");
         int there = x.wave(0, 4);
         Edge.due("odds of 1 are above 0", x.wave(0, 0), 38);
@@ -211,8 +229,9 @@ public final class CrossingEdgesTest {
     }
 
     private static void varsOfNeeds() {
-        Edge.says("at: the WAVE; odds: of the THING; heavy, nerve; left: how many THINGS MAY be over that WAVE; which:"
-            + " the PARTY's number; buoys: how many BUOYS lie over it; goes: how often the PARTY went so far.");
+        Edge.says("Of a PARTY, a WAVE and a THING: at: the WAVE; odds: of the THING; heavy, nerve; left: how many THINGS"
+            + " MAY be over that WAVE; which: the PARTY's number; buoys: how many BUOYS lie over it; goes: how often the"
+            + " PARTY went so far.");
         String text = "wave 1 2 3 4 5 6; wave 0 9 0 0 0 0; party p 1 2; party q 3 4; needs = ";
         Edge.due("at", Edge.told(text + "at;").needs(0, 1, 0), 1);
         Edge.due("odds", Edge.told(text + "odds;").needs(0, 0, 5), 6);
@@ -293,6 +312,46 @@ public final class CrossingEdgesTest {
         }
         for (int wave = 0; wave < 5; wave++) {
             Edge.due("then(" + wave + ", 40, 2) by seed " + seed, x.then(wave, 40, 2), last[wave] / 9);
+        }
+    }
+
+    private static void paying() {
+        Edge.says("A PARTY that is HERE GOES by a GUESS: it pays FARES");
+        // The first of them sinks, the second is let down, the third comes over: each pays its own.
+        GuessFerry x = Edge.told("wave 0 8 0 0 0 0; party a 9 0; party b 0 3; party c 0 5; fares=10+nerve+goes;");
+        Edge.due("it sinks", x.go(0, 1), 0);
+        Edge.due("paid by the first", x.count(3), 10);
+        Edge.due("it is let down", x.go(1, 0), 0);
+        Edge.due("paid by two", x.count(3), 10 + 13);
+        Edge.due("it comes over", x.go(2, 1), 1);
+        Edge.due("paid by three", x.count(3), 10 + 13 + 15);
+        Edge.due("lost, it goes not", x.go(0, 1), -1);
+        Edge.due("over, it goes not", x.go(2, 1), -1);
+        Edge.due("who goes not pays not", x.count(3), 10 + 13 + 15);
+        Edge.due("here, it goes once more", x.go(1, 1), 1);
+        Edge.due("paid once more", x.count(3), 10 + 13 + 15 + 14);
+        Edge.due("fetching is free", x.fetch(1), true);
+        Edge.due("paid so far", x.count(3), 10 + 13 + 15 + 14);
+    }
+
+    private static void waveByWave() {
+        Edge.says("WAVE by WAVE from 0 on");
+        // Over each of three waves it may come, sink or be let down: the first that stops it is the last told.
+        int[] things = {1, 2, 3};
+        for (int stop = 0; stop < 3; stop++) {
+            for (int by = 0; by < 2; by++) {
+                GuessFerry x = Edge.told("wave 0 8 0 0 0 0; wave 0 0 8 0 0 0; wave 0 0 0 8 0 0; party p 0 0;"
+                    + "needs=if odds<1 then " + by + " else 8;");
+                int[] row = things.clone();
+                for (int wave = stop; wave < 3; wave++) {
+                    row[wave] = 5;
+                }
+                Edge.due("stopped at " + stop, x.go(0, Edge.guess(row)), stop);
+                Edge.due("found ahead of " + stop, x.count(13), (1 << stop) - 1);
+                Edge.due("buoys, sinking " + by, x.count(12), 1 - by);
+                Edge.due("the buoy, sinking " + by, x.wave(stop, 2), by == 0 ? 32 : 0);
+                Edge.due("lost or here", x.party(0, 2), by);
+            }
         }
     }
 
@@ -432,6 +491,14 @@ public final class CrossingEdgesTest {
     }
 
     private static void byHand() {
+        Edge.says("By hand: a PARTY GOES; a BUOY of a THING over a WAVE is laid, or taken up (true or not); a PARTY that"
+            + " is LOST or OVER is HERE again; YEARS go by.");
+        GuessFerry hand = Edge.told("wave 0 8 0 0 0 0; party p 0 0; dares=0;");
+        Edge.due("it goes by hand though it dares not", hand.go(0, 1), 1);
+        Edge.due("a buoy", hand.buoy(0, 2, true), true);
+        Edge.due("here again", hand.fetch(0), true);
+        Edge.due("a year", hand.years(1), 1);
+        Edge.due("all four can be undone", hand.count(9), 4);
         Edge.says("a BUOY of a THING over a WAVE is laid, or taken up (true or not)");
         GuessFerry x = Edge.told("wave 0 8 0 0 0 0; party p 0 0; party q 9 0;");
         Edge.due("laid on what is there", x.buoy(0, 1, true), true);

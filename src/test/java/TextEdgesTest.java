@@ -15,6 +15,7 @@ public final class TextEdgesTest {
         names();
         noWordIsAName();
         ints();
+        signs();
         noOtherToken();
         grammar();
         wavesAndParties();
@@ -127,6 +128,25 @@ public final class TextEdgesTest {
         read("needs = 99999;", 1, 8);
         read("seed :;", 1, 5);
         read("seed 1:;", 1, 6);
+    }
+
+    private static void signs() {
+        Edge.says("SIGNS ; = + - * / < ( ) .");
+        fine("needs=if(1+2)*3-4/5<6then 7else 8;");
+        // A sign is a token by itself, whatever stands behind it.
+        read("needs==1;", 1, 6);
+        read("needs=1<=2;", 1, 7);
+        read("needs=1+-2;", 1, 8);
+        read("needs=1**2;", 1, 8);
+        read("needs=1//2;", 1, 8);
+        read("needs=if 1<<2 then 3 else 4;", 1, 11);
+        read("seed 1;;", 1, 7);
+        read("seed 1.", 1, 6);
+        // Each of them where no text goes on with it.
+        for (int i = 0; i < SIGNS.length(); i++) {
+            read(SIGNS.charAt(i) + "seed 1;", 1, 0);
+            read("seed " + SIGNS.charAt(i) + "1;", 1, 5);
+        }
     }
 
     private static void noOtherToken() {
