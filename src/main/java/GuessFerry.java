@@ -18,6 +18,12 @@ public final class GuessFerry {
     private static final int MOST_WAVES = 5;
     private static final int MOST_PARTIES = 6;
     private static final int MOST_ODDS = 9;
+    private static final int MOST_HEAVY = 9;
+    private static final int MOST_NERVE = 9;
+    private static final int MOST_SEED = 9999;
+    private static final int MOST_NEEDS = 9;
+    private static final int MOST_FARES = 99;
+    private static final int MOST_SHIFTS = 100;
     private static final int MOST_UNDONE = 40;
     private static final int SLOTS = 3;
     private static final int MOST_YEARS = 40;
@@ -841,7 +847,7 @@ public final class GuessFerry {
                 readParty();
             } else if (kind == Tokens.SEED) {
                 take(Tokens.SEED);
-                draft.seed = takeInt(9999);
+                draft.seed = takeInt(MOST_SEED);
                 take(';');
             } else if (law >= 0 && law < LAWS) {
                 take(kind);
@@ -884,8 +890,8 @@ public final class GuessFerry {
             }
             take(Tokens.NAME);
             names[draft.parties] = name;
-            draft.heavy[draft.parties] = takeInt(9);
-            draft.nerve[draft.parties] = takeInt(9);
+            draft.heavy[draft.parties] = takeInt(MOST_HEAVY);
+            draft.nerve[draft.parties] = takeInt(MOST_NERVE);
             take(';');
             draft.parties++;
         }
@@ -963,8 +969,8 @@ public final class GuessFerry {
 
     /**
      * The four LAWS. A LAW is a row of parts, three for each if and one more; a part is a row of
-     * steps: a number as it is, a VAR as its number below -1, a SIGN as its byte below 0, each
-     * SIGN behind what it joins.
+     * steps: a number as it is, a VAR as -1 less its number, a SIGN as its byte below 0, each SIGN
+     * behind what it joins.
      */
     private static final class Laws {
         private static final int MOST_IFS = 4;
@@ -1278,6 +1284,9 @@ public final class GuessFerry {
 
     /** How it is and what comes of it, by the LAWS, in a standing that may be a trial. */
     private static final class Crossing {
+        // Far above what WAVES shift, so that no YEAR has the LOT of a THING.
+        private static final int YEAR_LOTS = 1000000;
+
         private final Sound sound;
         private final int[] vars;
 
@@ -1328,7 +1337,7 @@ public final class GuessFerry {
             setParty(standing, party);
             setWave(standing, wave);
             vars[VAR_ODDS] = sound.oddsAt(wave, thing);
-            return heldTo(9, sound.laws.valueOf(NEEDS));
+            return heldTo(MOST_NEEDS, sound.laws.valueOf(NEEDS));
         }
 
         private boolean isBearing(Standing standing, int party, int wave, int thing) {
@@ -1338,7 +1347,7 @@ public final class GuessFerry {
         private int fareOf(Standing standing, int party) {
             clearVars(standing);
             setParty(standing, party);
-            return heldTo(99, sound.laws.valueOf(FARES));
+            return heldTo(MOST_FARES, sound.laws.valueOf(FARES));
         }
 
         private boolean isDaring(Standing standing, int party) {
@@ -1350,7 +1359,7 @@ public final class GuessFerry {
         private int shiftsOf(Standing standing, int wave) {
             clearVars(standing);
             setWave(standing, wave);
-            return heldTo(100, sound.laws.valueOf(SHIFTS));
+            return heldTo(MOST_SHIFTS, sound.laws.valueOf(SHIFTS));
         }
 
         /** Over how many WAVES the PARTY comes. */
@@ -1386,7 +1395,7 @@ public final class GuessFerry {
         }
 
         private void passYearOver(Standing standing, int wave) {
-            int drawn = lot(100, sound.seed, 8 * standing.year + 1000000 + wave);
+            int drawn = lot(MOST_SHIFTS, sound.seed, 8 * standing.year + YEAR_LOTS + wave);
             if (drawn < shiftsOf(standing, wave)) {
                 standing.shifted[wave]++;
                 standing.found[wave] = NONE;
